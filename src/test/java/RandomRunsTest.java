@@ -94,7 +94,7 @@ public final class RandomRunsTest {
         boolean reads = method.getName().equals("tones") || method.getName().equals("write");
         if (reads && random.nextInt(20) != 0) {
             String text = text(method.getName().equals("tones"));
-            for (int[] five : fives(text)) {
+            for (int[] five : Texts.fives(text)) {
                 boolean same = compare(run, named(methods, "feed"), Arrays.stream(five).boxed().toArray());
                 if (!same) {
                     return false;
@@ -152,18 +152,6 @@ public final class RandomRunsTest {
         // What lies at the ends is mostly wrong: it is asked for less often.
         boolean atEnd = v == least || v == most;
         return atEnd && random.nextInt(4) != 0 ? least + random.nextInt(most - least + 1) : v;
-    }
-
-    private static int[][] fives(String text) {
-        StringBuilder filled = new StringBuilder(text);
-        while (filled.length() % 20 != 0) {
-            filled.append(' ');
-        }
-        int[][] made = new int[filled.length() / 20][5];
-        for (int at = 0; at < filled.length(); at++) {
-            made[at / 20][at % 20 / 4] |= filled.charAt(at) << 24 - 8 * (at % 4);
-        }
-        return made;
     }
 
     /** Mostly right; some have a sign too many, too few, or another one. */

@@ -3,26 +3,23 @@ final class Texts {
     private Texts() {
     }
 
-    /** Feeds a text, filled up with a letter to whole calls; answers what the last call answered. */
+    /** Feeds a text, filled up to whole calls; answers what the last call answered. */
     static int feed(ChainTables x, String text) {
-        StringBuilder filled = new StringBuilder(text);
-        while (filled.length() % 20 != 0 || filled.length() == 0) {
-            filled.append('a');
-        }
         int answer = 0;
-        for (int at = 0; at < filled.length(); at += 20) {
-            answer = x.feed(four(filled, at), four(filled, at + 4), four(filled, at + 8),
-                    four(filled, at + 12), four(filled, at + 16));
+        for (int[] five : fives(text)) {
+            answer = x.feed(five[0], five[1], five[2], five[3], five[4]);
         }
         return answer;
     }
 
-    private static int four(StringBuilder text, int at) {
-        int bits = 0;
-        for (int i = 0; i < 4; i++) {
-            bits = bits << 8 | text.charAt(at + i) & 255;
+    /** The arguments of the calls that feed a text: twenty bytes each, the last ones filled up with a letter. */
+    static int[][] fives(String text) {
+        int[][] made = new int[Math.max(1, (text.length() + 19) / 20)][5];
+        for (int at = 0; at < 20 * made.length; at++) {
+            int sign = at < text.length() ? text.charAt(at) & 255 : 'a';
+            made[at / 20][at % 20 / 4] |= sign << 24 - 8 * (at % 4);
         }
-        return bits;
+        return made;
     }
 
     static int tones(ChainTables x, String text) {
