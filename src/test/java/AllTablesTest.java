@@ -15,6 +15,8 @@ public final class AllTablesTest {
     private static void all() {
         Check.due("all without", new ChainTables().all(), -1);
         Check.due("all of one", Texts.withTones("5/").all(), 1);
+        Check.due("all of one, 6", Texts.withTones("6/").all(), 1);
+        Check.due("all of one, -6", Texts.withTones("-6/").all(), 1);
         Check.due("all of two", Texts.withTones("2 6/3").all(), 3);
         Check.due("all of two, wide", Texts.withTones("-6 6/0").all(), 11);
         Check.due("all of three", Texts.withTones("1 4 6/2 5").all(), 7);
@@ -86,6 +88,9 @@ public final class AllTablesTest {
         Check.due("some 2 with 16, wide", x.some(2, 16), 5);
         Check.due("some 3, wide", x.some(3, 0), 5);
         Texts.tones(x, "-6 6/0");
+        Check.due("some 2 of two", x.some(2, 35), 2);
+        Check.due("some 2 of two", x.some(2, 36), 1);
+        Check.due("some 2 of two", x.some(2, 1), 0);
         Check.due("some 3 of two", x.some(3, 0), 11);
         Texts.tones(x, "5/");
         Check.due("some 0 of one", x.some(0, 0), 1);
@@ -180,5 +185,17 @@ public final class AllTablesTest {
         Check.due("drawers", x.count(1), 0);
         Check.due("undo", x.undo(), -1);
         Check.due("kept", x.count(3), 0);
+        for (int d = 0; d < 4; d++) {
+            x.table(d, d + 1);
+        }
+        x.keep();
+        for (int d = 0; d < 4; d++) {
+            x.draws(d, 5, d);
+        }
+        x.undo();
+        for (int d = 0; d < 4; d++) {
+            Check.due("drawer " + d, x.told(d, true, -1), d + 1);
+            Check.due("drawer " + d, x.told(d, true, d), 0);
+        }
     }
 }

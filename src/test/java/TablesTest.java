@@ -73,6 +73,8 @@ public final class TablesTest {
         Check.due("text", Texts.ofTable(x, 3), "-6/");
         Check.due("write", Texts.write(x, 1, "3 3 -3 2/1  036 9 "), 4);
         Check.due("text", Texts.ofTable(x, 1), "3 3 -3 2/1 36 9");
+        Check.due("write", Texts.write(x, 1, "3 3 -3 2/10 19 20"), 4);
+        Check.due("text", Texts.ofTable(x, 1), "3 3 -3 2/10 19 20");
         Check.due("tones stay away", x.count(0), 0);
         String long60 = "                              6 -6 0 000000000000/0000036 1 ";
         Check.due("60 bytes", long60.length(), 60);
@@ -374,6 +376,20 @@ public final class TablesTest {
         Check.due("alike, C not turned", x.alike(0, 2, 0), 0);
         Texts.write(x, 1, "1 2 3/4 6");
         Check.due("alike, another C", x.alike(0, 1, 0), 0);
+        String[] almost = {"3 2 2/5 4", "2 2 1/5 4", "3 1 1/5 4", "3 2 1/5 5", "3 2 1/6 4"};
+        for (String text : almost) {
+            Texts.write(x, 1, text);
+            Check.due("alike, not quite turned: " + text, x.alike(0, 1, 1), 0);
+            Check.due("alike, not quite turned: " + text, x.alike(1, 0, 1), 0);
+        }
+        Texts.write(x, 1, "1 3/3");
+        x.table(2, 2);
+        x.table(3, 1);
+        Check.due("alike, where one is 0", x.alike(3, 1, 0), 0);
+        Check.due("alike, fewer rows", x.alike(3, 2, 1), 0);
+        x.put(3, true, 0, 1);
+        x.table(2, 1);
+        Check.due("alike, 1 and 0", x.alike(3, 2, 0), 0);
         x.table(1, 3);
         x.table(3, 2);
         Texts.write(x, 0, "0 0 0/2 2");
@@ -481,6 +497,9 @@ public final class TablesTest {
         Check.due("empty, how 5", x.change(0, 5), -1);
         x.table(1, 2);
         Check.due("without its last row", x.change(1, 3), 1);
+        Texts.write(x, 1, "1 2 3 4 5/6 7 8 9");
+        Check.due("without its first row", x.change(1, 4), 4);
+        Check.due("text", Texts.ofTable(x, 1), "2 3 4 5/7 8 9");
     }
 
     // Promise 35
@@ -592,6 +611,8 @@ public final class TablesTest {
         rivalsOf("1 3/3", new int[] {6, 0, 10}, new int[] {11, -1, 8});
         rivalsOf(THREE, new int[] {0, 0, 1}, new int[] {-1, -1, 112});
         rivalsOf("2 2/1", new int[] {5, 1, 13}, new int[] {1004, 1004, 7});
+        rivalsOf("-1 -1 2/5 1", new int[] {1, 1, 0}, new int[] {1108, 1108, -1});
+        rivalsOf("0 4 6/11 8", new int[] {1, 1, 2}, new int[] {1130, 206, 11});
         rivalsOf("5/", new int[] {12, 1, 6}, new int[] {0, 6, 6});
         rivalsOf("2 2 2/1 1", new int[] {12, 3, 19}, new int[] {107, 107, 7});
         ChainTables x = Texts.withTable(0, "5/");
@@ -668,6 +689,10 @@ public final class TablesTest {
         Check.due("nearest of one", x.nearest(1, 1), -3);
         Texts.write(x, 0, "6 -6 6/1 1");
         Check.due("nearest, cut together", x.nearest(0, 5), 0);
+        Texts.write(x, 0, "-1 2 -3/4 5");
+        Check.due("nearest, the first two", x.nearest(0, 10), 25);
+        Texts.write(x, 0, "0 0 0 0/1 36 1");
+        Check.due("nearest, in the middle", x.nearest(0, 50), 17);
         Check.due("wide nearest", Texts.withTable(0, WIDE).nearest(0, 50), 124);
     }
 }

@@ -160,6 +160,11 @@ public final class TonesTest {
         if (number != 0) {
             Check.due("behind \"" + text + "\"", Texts.ofTones(x), "2 6/3");
         }
+        // Nothing of one text is left for the next one: this number begins where that one's last may have ended.
+        for (int blanks = 1; blanks < 10; blanks++) {
+            Texts.tones(x, text);
+            Check.due("a text behind \"" + text + "\"", Texts.tones(x, " ".repeat(blanks) + "1/"), 1);
+        }
     }
 
     // Promise 4
