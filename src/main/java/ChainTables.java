@@ -33,7 +33,7 @@ public final class ChainTables {
 
     // Rows that calls use again, so that a long run makes no new ones.
     private final ToneNumbers numbers = new ToneNumbers();
-    private final ToneTable toneTable = new ToneTable();
+    private final ToneTable toneTable = new ToneTable(numbers);
     private final AllTables allTables = new AllTables();
     private final TableWork work = new TableWork();
     private final WholeTable spareTable = new WholeTable();
@@ -130,7 +130,7 @@ public final class ChainTables {
         if (!hasTones() || !within(i, 0, last) || !isPart(what)) {
             return NOTHING;
         }
-        rebuildToneTable();
+        toneTable.rebuild(now.tones);
         return first ? toneTable.a[i].part(what) : toneTable.c[i].part(what);
     }
 
@@ -138,7 +138,7 @@ public final class ChainTables {
         if (!hasTones() || !within(k, 0, now.tones.size) || !within(j, 0, k) || !isPart(what)) {
             return NOTHING;
         }
-        rebuildToneTable();
+        toneTable.rebuild(now.tones);
         return toneTable.orthogonal(k)[j].part(what);
     }
 
@@ -146,7 +146,7 @@ public final class ChainTables {
         if (!hasTones() || !within(k, 1, now.tones.size) || !within(x, -20, 20) || !isPart(what)) {
             return NOTHING;
         }
-        rebuildToneTable();
+        toneTable.rebuild(now.tones);
         return toneTable.cutShort(k, x, result) ? result.part(what) : BY_ZERO;
     }
 
@@ -157,7 +157,7 @@ public final class ChainTables {
         if (!hasChain()) {
             return NO_CHAIN;
         }
-        rebuildToneTable();
+        toneTable.rebuild(now.tones);
         toneTable.hang();
         return kind == 0 ? toneTable.masses[i].part(what) : toneTable.springs[i].part(what);
     }
@@ -169,7 +169,7 @@ public final class ChainTables {
         if (!hasChain()) {
             return NO_CHAIN;
         }
-        rebuildToneTable();
+        toneTable.rebuild(now.tones);
         toneTable.hang();
         result.set(0, 1);
         for (int i = 0; i < now.tones.size; i++) {
@@ -190,7 +190,7 @@ public final class ChainTables {
         if (!hasTones() || !within(x, -8, 8) || !isPart(what)) {
             return NOTHING;
         }
-        rebuildToneTable();
+        toneTable.rebuild(now.tones);
         toneTable.addSquares(x, result);
         return result.part(what);
     }
@@ -632,11 +632,6 @@ public final class ChainTables {
 
     private boolean hasChain() {
         return within(now.tones.size, 1, ToneTable.MOST_MASSES) && now.tones.outer[0] > 0;
-    }
-
-    private void rebuildToneTable() {
-        numbers.rebuild(now.tones);
-        toneTable.rebuild(numbers);
     }
 
     private int takeSpareTones() {
@@ -1469,6 +1464,7 @@ public final class ChainTables {
     private static final class ToneTable {
         static final int MOST_MASSES = 3;
 
+        private final ToneNumbers numbers;
         int rows = 0;
         final Fraction[] a = Fraction.row(MOST_TONES);
         final Fraction[] c = Fraction.row(MOST_TONES - 1);
@@ -1483,8 +1479,13 @@ public final class ChainTables {
         private final Fraction next = new Fraction();
         private final Fraction product = new Fraction();
 
+        ToneTable(ToneNumbers numbersToUse) {
+            numbers = numbersToUse;
+        }
+
         /** Divides P by Q, Q by what is left, and so on: each time an A, and a C as what is left begins with. */
-        void rebuild(ToneNumbers numbers) {
+        void rebuild(Tones tones) {
+            numbers.rebuild(tones);
             rows = numbers.size;
             Fraction[] high = rowOne;
             Fraction[] low = rowTwo;
