@@ -386,6 +386,7 @@ public final class TablesTest {
         x.table(2, 2);
         x.table(3, 1);
         Check.due("alike, where one is 0", x.alike(3, 1, 0), 0);
+        Check.due("alike, fewer rows", x.alike(3, 2, 0), 0);
         Check.due("alike, fewer rows", x.alike(3, 2, 1), 0);
         x.put(3, true, 0, 1);
         x.table(2, 1);
