@@ -1105,14 +1105,9 @@ public final class ChainTables {
             return found;
         }
 
-        /** Asked of so many tables that it stops at the first root that is not. */
+        /** Counted, as two roots cut down may both come to the same whole one. */
         boolean areWhole(int k) {
-            for (int i = 0; i < k; i++) {
-                if (valueAt(0, k, rootInParts(k, i, 1), 1) != 0) {
-                    return false;
-                }
-            }
-            return true;
+            return wholeRoots(k) == k;
         }
 
         /** 0 all roots are whole, 1 one is 0, 2 none is below 0. */

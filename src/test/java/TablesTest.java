@@ -616,6 +616,13 @@ public final class TablesTest {
         rivalsOf("0 4 6/11 8", new int[] {1, 1, 2}, new int[] {1130, 206, 11});
         rivalsOf("5/", new int[] {12, 1, 6}, new int[] {0, 6, 6});
         rivalsOf("2 2 2/1 1", new int[] {12, 3, 19}, new int[] {107, 107, 7});
+        rivalsOf("6 6 4 4/4 7 4", new int[] {2, 3, 59}, new int[] {1116, 109, 8});
+        rivalsOf("1 0 1 0 1/2 6 4 2", new int[] {7, 5, 0}, new int[] {1114, 5, -1});
+        rivalsOf("1 0 1 0 1/2 6 4 3", new int[] {2, 2, 0}, new int[] {1302, 310, -1});
+        // Of each, one rival has roots that are not whole and, cut, come to its whole ones.
+        rivalsOf("0 0 2 0 0/3 1 1 1", new int[] {0, 3, 0}, new int[] {-1, 0, -1});
+        rivalsOf("0 1 1 0 2/5 1 1 3", new int[] {0, 1, 0}, new int[] {-1, 403, -1});
+        rivalsOf("-2 0 2 -2 0/1 1 3 2", new int[] {0, 82, 0}, new int[] {-1, 300, -1});
         ChainTables x = Texts.withTable(0, "5/");
         Check.due("rivals what 3", x.rivals(0, 3, false), -1);
         Check.due("rivals what -1", x.rivals(0, -1, true), -1);
