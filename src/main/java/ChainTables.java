@@ -1105,9 +1105,22 @@ public final class ChainTables {
             return found;
         }
 
-        /** Counted, as two roots cut down may both come to the same whole one. */
+        /**
+         * Asked of so many tables that it stops where the sign tells of a root between two whole
+         * numbers. Two of them there keep the sign: so the whole ones are counted, too.
+         */
         boolean areWhole(int k) {
-            return wholeRoots(k) == k;
+            int found = 0;
+            for (int x = -ROOT_REACH; x <= ROOT_REACH; x++) {
+                long value = valueAt(0, k, x, 1);
+                boolean isOddAbove = (k - found) % 2 == 1;
+                if (value == 0) {
+                    found++;
+                } else if (value < 0 != isOddAbove) {
+                    return false;
+                }
+            }
+            return found == k;
         }
 
         /** 0 all roots are whole, 1 one is 0, 2 none is below 0. */
