@@ -11,8 +11,9 @@ import java.util.Random;
 
 /** Runs of calls by a fixed seed, answered by the program and by the oracle alike. */
 public final class RandomRunsTest {
-    private static final int RUNS = 1500;
-    private static final int CALLS = 300;
+    private static final int RUNS = 900;
+    // An object is used for at most so many.
+    private static final int CALLS = 512;
     private static final int[] EXTREMES = {Integer.MIN_VALUE, Integer.MAX_VALUE, -1, -2, 0, 1 << 16, -100, 1001};
     private static final Map<String, int[][]> RANGES = new HashMap<>();
 
@@ -20,6 +21,7 @@ public final class RandomRunsTest {
     private final ChainTables program = new ChainTables();
     private final Oracle oracle = new Oracle();
     private final StringBuilder told = new StringBuilder();
+    private int calls = 0;
 
     private RandomRunsTest(long seed) {
         random = new Random(seed);
@@ -68,7 +70,8 @@ public final class RandomRunsTest {
     }
 
     private void run(int run, List<Method> methods) throws Exception {
-        for (int call = 0; call < CALLS; call++) {
+        // A text takes up to three calls of feed() and one that reads it.
+        while (calls <= CALLS - 4) {
             Method method = methods.get(random.nextInt(methods.size()));
             if (random.nextInt(8) == 0) {
                 method = named(methods, random.nextBoolean() ? "tones" : "write");
@@ -106,6 +109,7 @@ public final class RandomRunsTest {
     }
 
     private boolean compare(int run, Method method, Object[] arguments) throws Exception {
+        calls++;
         String call = method.getName() + Arrays.toString(arguments);
         Object due = Oracle.class.getDeclaredMethod(method.getName(), method.getParameterTypes()).invoke(oracle, arguments);
         Object got;
