@@ -51,16 +51,14 @@ public final class BoundsTest {
 
     /** Drawer 1 holds three rows, 2 one, 3 none; forty bytes lie on the tape; two states are kept. */
     private Both begin() {
-        Both x = new Both().write(1, "0 1/2").tones("-3/");
+        Both x = new Both().write(1, "0 1/2");
+        if (tones > 0) {
+            x.tones("-3/");
+        }
         x.call("keep");
         x.write(2, "5/").write(1, "-1 0 1/7 8");
         if (tones > 0) {
             x.tones(TONES[tones - 1]);
-        } else {
-            // Without TONES from here on: the state that was kept has none.
-            x = new Both().write(1, "0 1/2");
-            x.call("keep");
-            x.write(2, "5/").write(1, "-1 0 1/7 8");
         }
         if (rows > 0) {
             x.write(0, TABLES[rows - 1]);

@@ -34,6 +34,7 @@ public final class EdgesTest {
         heard();
         statesFull();
         statesNone();
+        ownMemory();
         longRun();
         Check.end();
     }
@@ -592,6 +593,38 @@ public final class EdgesTest {
         Check.due("all empty", x.count(1), 0);
         Check.due("the tape stays", x.count(2), 20);
         Check.due("undo of none", x.undo(), -1);
+    }
+
+    // Terms: all memory is the table's own: two objects, two DRAWERS, a state and what is there share nothing
+    private static void ownMemory() {
+        ChainTables x = Texts.withTones("1 4 6/2 5");
+        ChainTables y = Texts.withTones("-6 6/0");
+        x.lay(0, 0);
+        x.lay(0, 1);
+        y.lay(0, 0);
+        x.keep();
+        y.keep();
+        x.put(0, true, 0, -6);
+        x.put(0, false, 1, 36);
+        x.mirror();
+        x.feed(0x20202020, 0, 0, 0, 0);
+        Check.due("the drawer", Texts.ofTable(x, 0), "-6 3 5/3 36");
+        Check.due("the other drawer", Texts.ofTable(x, 1), "3 3 5/3 2");
+        Check.due("the other object", Texts.ofTable(y, 0), "-5 5/11");
+        Check.due("the other object", Texts.ofTones(y), "-6 6/0");
+        Check.due("the other object", y.count(2), 0);
+        Check.due("moments of the other object", y.moment(2), 36);
+        Check.due("moments", x.moment(1), -4);
+        Check.due("undo", x.undo(), 0);
+        Check.due("the other object", y.count(3), 1);
+        Check.due("as it was kept", Texts.ofTable(x, 0), "3 3 5/3 2");
+        Check.due("as it was kept", Texts.ofTones(x), "1 4 6/2 5");
+        x.join(2, 0, 1);
+        x.table(2, 1);
+        x.join(2, 0, 1);
+        x.put(2, true, 1, 0);
+        Check.due("what was joined", Texts.ofTable(x, 2), "0 0 3 5/1 3 2");
+        Check.due("where it came from", Texts.ofTable(x, 0), "3 3 5/3 2");
     }
 
     // An object is used for at most 512 calls: the last one answers as the first one did.
